@@ -108,7 +108,7 @@ public final class VideoBridge {
             throw new IllegalStateException("the room cannot be split");
         }
         Room fresh = openRoom();
-        // Each one that goes lets the others close up, so the next to go stands one further, not two.
+        // Each one who goes lets the others close up, so the next to go stands one further, not two.
         for (int i = 1; i < MOST_PEOPLE; i++) {
             Person going = whole.at(i);
             if (going != null) {
@@ -486,7 +486,7 @@ public final class VideoBridge {
     private boolean takeTurns() {
         boolean changed = false;
         for (Room room : allRooms) {
-            if (room != null && room.changesSpeaker()) {
+            if (room != null && room.passTick()) {
                 turns.put(10 * room.number + numberOf(room.speaker));
                 changed = true;
             }
@@ -559,7 +559,8 @@ public final class VideoBridge {
             return -1;
         }
 
-        boolean changesSpeaker() {
+        /** Answers whether there was a turn, since views hang on who is the speaker. */
+        boolean passTick() {
             Person candidate = candidate();
             if (speaker == null) {
                 endChallenge();
