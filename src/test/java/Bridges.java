@@ -17,6 +17,48 @@ final class Bridges {
         return x;
     }
 
+    /** Something of everything: a speaker, a challenger of 2 ticks, pins, notes, and a person and a room left alone. */
+    static VideoBridge busy() {
+        VideoBridge x = oneRoom(4);
+        x.addPerson(250);
+        x.addRoom();
+        x.record(0);
+        x.record(1);
+        x.setLoud(0, 20);
+        x.pass(1);
+        x.stop(1);
+        x.setLoud(1, 40);
+        x.pass(2);
+        x.setBudget(0, 1750);
+        x.setBudget(1, 700);
+        x.setSends(2, 2);
+        x.pin(2, 3);
+        x.pin(0, 1);
+        return x;
+    }
+
+    /** As many people, rooms, recorders and ticks as may be, with speakers, a challenger and a pin. */
+    static VideoBridge full() {
+        VideoBridge x = oneRoom(10);
+        x.split(0);
+        for (int room = 2; room < 6; room++) {
+            x.addRoom();
+        }
+        for (int recorder = 0; recorder < 8; recorder++) {
+            x.record(recorder % 6);
+        }
+        x.setLoud(4, 10);
+        x.setLoud(9, 30);
+        while (x.tick() < 1980) {
+            x.pass(60);
+        }
+        x.pass(18);
+        x.setLoud(2, 15);
+        x.pass(2);
+        x.pin(0, 8);
+        return x;
+    }
+
     /** The people of a room as digits in their order. */
     static String order(VideoBridge x, int room) {
         StringBuilder digits = new StringBuilder();
